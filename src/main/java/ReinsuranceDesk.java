@@ -577,14 +577,11 @@ public final class ReinsuranceDesk {
             }
         }
 
-        private boolean isInWindow(int claim, int start) {
-            return claims.hour[claim] >= start && claims.hour[claim] < start + WINDOW_HOURS;
-        }
-
         private long keptFrom(int start) {
             long sum = 0;
             for (int member = 0; member < groupSize; member++) {
-                if (isInWindow(group[member], start)) {
+                int hour = claims.hour[group[member]];
+                if (hour >= start && hour < start + WINDOW_HOURS) {
                     sum += keptOf[group[member]];
                 }
             }
@@ -608,7 +605,8 @@ public final class ReinsuranceDesk {
         private void dropOutside(int start) {
             int inside = 0;
             for (int member = 0; member < groupSize; member++) {
-                if (isInWindow(group[member], start)) {
+                int hour = claims.hour[group[member]];
+                if (hour >= start && hour < start + WINDOW_HOURS) {
                     group[inside] = group[member];
                     inside++;
                 }

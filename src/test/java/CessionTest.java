@@ -262,6 +262,8 @@ public final class CessionTest {
         Check.answers("14: no claims at all", 0, () -> y.total(0, 0));
         add(y, 0, 0, 0, 0);
         cededAre("11: nothing kept", y, 0, 0);
+        y.estimate(0, 1);
+        cededAre("11: a single cent kept", y, 0, 1);
     }
 
     private static void greatestAmounts() {

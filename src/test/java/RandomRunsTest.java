@@ -16,6 +16,7 @@ public final class RandomRunsTest {
     private final int hours;
     private final int events;
     private final int years;
+    private final int fillingCalls;
     private final boolean wild;
 
     private RandomRunsTest(long seed) {
@@ -24,6 +25,7 @@ public final class RandomRunsTest {
         hours = new int[] {3, 150, 400, 100_000}[random.nextInt(4)];
         events = 1 + random.nextInt(9);
         years = 1 + random.nextInt(4);
+        fillingCalls = 50 + random.nextInt(300);
         wild = random.nextInt(10) == 0;
     }
 
@@ -36,7 +38,7 @@ public final class RandomRunsTest {
 
     private void play(int run) {
         for (int call = 0; call < CALLS; call++) {
-            int[] weights = call < 120 ? FILLING : ASKING;
+            int[] weights = call < fillingCalls ? FILLING : ASKING;
             int method = draw(weights);
             int[] n = arguments(method);
             String name = "run " + run + ", call " + call + ": " + method + java.util.Arrays.toString(n);
@@ -99,7 +101,7 @@ public final class RandomRunsTest {
     }
 
     private int aClaim() {
-        return random.nextInt(random.nextInt(8) == 0 ? 41 : 20);
+        return random.nextInt(random.nextInt(3) == 0 ? 41 : 20);
     }
 
     private int aTreaty() {

@@ -17,6 +17,7 @@ public final class RecordingTest {
         estimate();
         strike();
         dissolve();
+        fullDesk();
         year();
         closedYear();
         Check.end();
@@ -310,6 +311,32 @@ public final class RecordingTest {
         Check.answers("9: of another year", 30, () -> x.window(1, 1));
         Check.answers("9: the last event", 1, () -> x.dissolve(9, 0));
         Check.answers("9: a year without claims", 0, () -> x.dissolve(1, 3));
+    }
+
+    /** With all risks, treaties and claims there is no room left, and every call still answers. */
+    private static void fullDesk() {
+        ReinsuranceDesk x = new ReinsuranceDesk();
+        for (int risk = 0; risk < 12; risk++) {
+            x.risk(risk, 1000, 0);
+            x.premium(risk, 100);
+        }
+        for (int treaty = 0; treaty < 10; treaty++) {
+            x.treaty(10 * (treaty % 5), 1, 20, 0, 0);
+            x.share(treaty, 5, 1_000_000);
+        }
+        for (int claim = 0; claim < 40; claim++) {
+            x.claim(claim % 12, 9, 100_000 - claim);
+            x.estimate(claim, 10);
+        }
+        Check.answers("6: the last claim, the earliest hour, goes first to the first excess", 9, () -> x.ceded(39, 2));
+        Check.answers("11: what is behind it in hours", 9, () -> x.ceded(38, 2));
+        Check.answers("11: the rest of its limit", 2, () -> x.ceded(37, 2));
+        Check.answers("13: the window of all", 99_961, () -> x.window(8, 9));
+        Check.answers("15: the last treaty", 20, () -> x.due(9, 5, 0));
+        Check.answers("9: all claims", 40, () -> x.dissolve(9, 0));
+        Check.answers("9: none any more", -1, () -> x.window(3, 9));
+        Check.passes("17: a bill", () -> x.bill(5));
+        Check.passes("8: the last claim", () -> x.strike(39));
     }
 
     private static void year() {
