@@ -76,7 +76,7 @@ public final class CessionBoundsTest {
 
     /** "the part a when the risk's sum is not above b, otherwise the part a * b / sum" */
     private static void quotaOfSum() {
-        int[][] rows = {{999, 1_000_000}, {1000, 1_000_000}, {1001, 999_000}, {2000, 500_000}, {GREATEST, 1}};
+        int[][] rows = {{1, 1_000_000}, {999, 1_000_000}, {1000, 1_000_000}, {1001, 999_000}, {2000, 500_000}, {GREATEST, 1}};
         for (int[] row : rows) {
             ReinsuranceDesk x = new ReinsuranceDesk();
             x.risk(0, row[0], 0);

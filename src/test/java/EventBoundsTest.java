@@ -5,7 +5,6 @@
  */
 public final class EventBoundsTest {
     private static final int GREATEST = 1_000_000_000;
-    private static final int ALL = 1_000_000;
 
     private EventBoundsTest() {
     }
